@@ -139,7 +139,8 @@ public final class Cardcabinet {
 
     // ---- other changes
 
-    public int pour(int row, int other) throws IndexOutOfBoundsException, IllegalArgumentException, IllegalStateException {
+    public int pour(int row, int other)
+            throws IndexOutOfBoundsException, IllegalArgumentException, IllegalStateException {
         Row source = rowAt(row);
         Row target = rowAt(other);
         needUnlikeRows(row, other);
@@ -151,7 +152,8 @@ public final class Cardcabinet {
         return target.size;
     }
 
-    public int deal(int row, int other) throws IndexOutOfBoundsException, IllegalArgumentException, IllegalStateException {
+    public int deal(int row, int other)
+            throws IndexOutOfBoundsException, IllegalArgumentException, IllegalStateException {
         Row source = rowAt(row);
         Row target = rowAt(other);
         needUnlikeRows(row, other);

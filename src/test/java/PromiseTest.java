@@ -282,7 +282,8 @@ public final class PromiseTest {
 
     private static void promise04Wrong() {
         Object[][] wrongTexts = {{";", 0}, {" ;", 1}, {"-", 0}, {"3", 0}, {"mod", 0}, {"mod 3", 0}, {"sam 1 1;", 0},
-            {"samee 1 1;", 0}, {"samerise 1 1;", 0}, {"Same 1 1;", 0}, {"saMe 1 1;", 0}, {"same;", 4}, {"same -3 1;", 5},
+            {"samee 1 1;", 0}, {"samerise 1 1;", 0}, {"samez 1 1;", 0}, {"zsame 1 1;", 0}, {"same 1 1 moda 1;", 9},
+            {"same 1 1 modz 1;", 9}, {"Same 1 1;", 0}, {"saMe 1 1;", 0}, {"same;", 4}, {"same -3 1;", 5},
             {"same 0 1;", 5}, {"same 0000 1;", 5}, {"same 401 1;", 5}, {"same 00001 1;", 5}, {"same 99999999999 1;", 5},
             {"same 1 10000;", 7}, {"same 1 00001;", 7}, {"same 1 -10000;", 8}, {"same 1 - 10000;", 9}, {"same 1 --1;", 8},
             {"same 1 ;", 7}, {"same 1 mod 3;", 7}, {"same 1 - mod 3;", 9}, {"same 1 1 1;", 9}, {"same 1 1 -;", 9},
@@ -994,6 +995,29 @@ public final class PromiseTest {
         due(y.errors(), 0);
     }
 
+    /** Answers that are found by sorting don't depend on what was sorted before. */
+    private static void promise30And31And34InTurn() {
+        Cardcabinet x = withFirsts(9, 1, 5, 5);
+        putAll(x, 1, 7, 3);
+        putAll(x, 2, 4, 4, 4);
+        for (int n = 0; n < 2; n++) {
+            due(x.wrongPairs(0), 3);
+            due(x.wrongPairs(1), 1);
+            due(x.unlike(0), 3);
+            due(x.unlike(2), 1);
+            due(x.middle(1), 3);
+            due(x.middle(0), 5);
+            due(x.sortPart(3, 0, 0), 0);
+            due(x.errors(), 0);
+            due(x.wrongPairs(2), 0);
+        }
+        due(x.sortAll(), 9);
+        due(firsts(x, 0) + firsts(x, 1) + firsts(x, 2), "[1, 3, 4, 4][4, 5][5, 7, 9]");
+        due(x.wrongPairs(0), 0);
+        due(x.sortDown(0, 0, 4), 4);
+        due(x.middle(0), 3);
+    }
+
     private static void run(String name, Runnable test) {
         promise = name;
         try {
@@ -1044,6 +1068,7 @@ public final class PromiseTest {
         run("32 sum", PromiseTest::promise32);
         run("33 compare", PromiseTest::promise33);
         run("34 middle", PromiseTest::promise34);
+        run("30 wrongPairs, 31 unlike, 34 middle", PromiseTest::promise30And31And34InTurn);
         run("35 mean", PromiseTest::promise35);
         run("37 errors", PromiseTest::promise37);
         System.out.println(checks + " checks, " + wrong + " wrong");

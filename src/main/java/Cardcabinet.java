@@ -485,16 +485,17 @@ public final class Cardcabinet {
     }
 
     private boolean theoremHolds(Row row) {
+        int end = row.size;
         copy.become(row);
-        arrangeRow(copy, Order.BY_FIRST);
-        if (!rises(copy) || arrangeRow(copy, Order.BY_FIRST) != 0) {
+        arrangePart(copy, 0, end, Order.BY_FIRST);
+        if (!rises(copy) || arrangePart(copy, 0, end, Order.BY_FIRST) != 0) {
             return false;
         }
         copy.become(row);
-        arrangeRow(copy, Order.BY_SECOND);
-        arrangeRow(copy, Order.BY_FIRST);
+        arrangePart(copy, 0, end, Order.BY_SECOND);
+        arrangePart(copy, 0, end, Order.BY_FIRST);
         otherCopy.become(row);
-        arrangeRow(otherCopy, Order.BY_BOTH);
+        arrangePart(otherCopy, 0, end, Order.BY_BOTH);
         return copy.become(otherCopy) == 0;
     }
 

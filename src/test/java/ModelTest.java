@@ -11,9 +11,9 @@ import java.util.regex.Pattern;
 
 /** Long runs of calls, drawn from fixed seeds, against a second cabinet that is written the slow, obvious way. */
 public final class ModelTest {
-    private static final int RUNS = 2500;
-    // The document promises the answers of 512 calls; the rows are read out behind them, on the same object.
-    private static final int CALLS = 512;
+    private static final int RUNS = 3000;
+    // So many of a run's calls are left for its end, to look at the cards.
+    private static final int LAST_LOOKS = 80;
 
     private record Card(int first, int second, int mark) {
     }
@@ -283,6 +283,12 @@ public final class ModelTest {
             return before.size() - row(r).size();
         }
 
+        int empty(int r) {
+            int before = row(r).size();
+            row(r).clear();
+            return before;
+        }
+
         int restore(int r) {
             List<Card> before = row(r);
             state(kept.get(r) != null);
@@ -397,10 +403,11 @@ public final class ModelTest {
     /** One run: the calls are drawn here, and made on both cabinets. */
     private static final class Run {
         final Random random;
-        final Cardcabinet x = new Cardcabinet();
+        final Counted x = new Counted();
         final Model y = new Model();
-        // Small runs meet the edges of small rows, large ones those of full rows and of the 20000 cards.
+        // Small runs meet the edges of small rows, large ones those of full rows, late ones that of the 20000 cards.
         final boolean isLarge;
+        final boolean isLate;
         final StringBuilder log = new StringBuilder();
         String pending = "";
         Object got;
@@ -409,6 +416,7 @@ public final class ModelTest {
         Run(int seed) {
             random = new Random(seed);
             isLarge = seed % 3 == 0;
+            isLate = seed % 30 == 3;
         }
 
         int below(int n) {
@@ -509,6 +517,17 @@ public final class ModelTest {
             return true;
         }
 
+        void makeMostCards() {
+            toType = "same 400 1;same 400 2;";
+            while (!toType.isEmpty()) {
+                typing();
+            }
+            for (int n = 0; n < 24; n++) {
+                ask("lay(0)", () -> x.lay(0), () -> y.lay(0));
+                ask("empty(0)", () -> x.empty(0), () -> y.empty(0));
+            }
+        }
+
         void next() {
             if (typing()) {
                 return;
@@ -596,11 +615,7 @@ public final class ModelTest {
                     break;
                 case 6:
                     if (isLarge || below(3) == 0) {
-                        ask("empty(" + r + ")", () -> x.empty(r), () -> {
-                            int before = y.row(r).size();
-                            y.row(r).clear();
-                            return before;
-                        });
+                        ask("empty(" + r + ")", () -> x.empty(r), () -> y.empty(r));
                     }
                     break;
                 case 7:
@@ -671,38 +686,61 @@ public final class ModelTest {
             }
         }
 
-        boolean rowsAgree() {
-            for (int r = 0; r < 4; r++) {
-                if (x.count(r) != y.rows.get(r).size()) {
-                    return false;
-                }
-                for (int p = 0; p < x.count(r); p++) {
-                    Card card = y.rows.get(r).get(p);
-                    if (x.cardAt(r, p, 0) != card.first() || x.cardAt(r, p, 1) != card.second()
-                            || x.cardAt(r, p, 2) != card.mark()) {
-                        return false;
-                    }
-                }
+        boolean isRight() {
+            if (got == null || got.equals(due)) {
+                return true;
             }
-            int seed = x.setSeed(0);
-            x.setSeed(seed);
-            return seed == y.seed && x.type(0) == y.text.length();
+            System.out.println(pending + " answered " + got + ", due is " + due);
+            return false;
         }
 
-        /** Whether all answers are as due; looking at everything behind each call is for every tenth run. */
-        boolean passes(boolean looksOften) {
-            for (int n = 0; n < CALLS; n++) {
-                next();
-                if (got != null && !got.equals(due)) {
-                    System.out.println(pending + " answered " + got + ", due is " + due);
-                    return false;
-                }
-                if ((looksOften || n == CALLS - 1) && !rowsAgree()) {
-                    System.out.println("behind " + pending + " the state is another one");
+        /** The sum sees every mark at every place, so one call of it looks at a whole row. */
+        boolean rowsAgree() {
+            for (int r = 0; r < 4; r++) {
+                int row = r;
+                ask("sum(" + row + ")", () -> x.sum(row), () -> y.sum(row));
+                if (!isRight()) {
                     return false;
                 }
             }
             return true;
+        }
+
+        boolean textAndSeedAgree() {
+            ask("type(0L)", () -> x.type(0), () -> y.type(0));
+            if (!isRight()) {
+                return false;
+            }
+            ask("setSeed(0)", () -> x.setSeed(0), () -> y.seed);
+            return isRight();
+        }
+
+        boolean cardsAgree() {
+            for (int n = x.callsLeft(); n > 0; n--) {
+                int row = below(4);
+                int place = below(y.rows.get(row).size() + 1);
+                int what = below(3);
+                ask("cardAt(" + row + "," + place + "," + what + ")",
+                        () -> x.cardAt(row, place, what), () -> y.cardAt(row, place, what));
+                if (!isRight()) {
+                    return false;
+                }
+            }
+            return true;
+        }
+
+        /** Whether all answers are as due; looking at all rows behind each call is for every tenth run. */
+        boolean passes(boolean looksOften) {
+            if (isLate) {
+                makeMostCards();
+            }
+            while (x.callsLeft() > LAST_LOOKS) {
+                next();
+                if (!isRight() || looksOften && !rowsAgree()) {
+                    return false;
+                }
+            }
+            return rowsAgree() && textAndSeedAgree() && cardsAgree();
         }
     }
 

@@ -44,13 +44,13 @@ public final class PromiseTest {
     }
 
     /** The call throws exactly this exception, and changes nothing. */
-    private static void dueThrow(Cardcabinet x, Class<?> exception, Call call) {
+    private static void dueThrow(Counted x, Class<?> exception, Call call) {
         String before = state(x);
         due(outcome(call), exception);
         due(state(x), before);
     }
 
-    private static void dueNoRow(Cardcabinet x, RowCall call) {
+    private static void dueNoRow(Counted x, RowCall call) {
         for (int row : NO_ROWS) {
             dueThrow(x, IndexOutOfBoundsException.class, () -> call.answer(row));
         }
@@ -60,7 +60,7 @@ public final class PromiseTest {
     private static final Class<?> ARGUMENT = IllegalArgumentException.class;
     private static final Class<?> STATE = IllegalStateException.class;
 
-    private static int type(Cardcabinet x, String text) {
+    private static int type(Counted x, String text) {
         int length = x.type(0);
         for (int p = 0; p < text.length(); p += 8) {
             long bytes = 0;
@@ -72,8 +72,8 @@ public final class PromiseTest {
         return length;
     }
 
-    private static Cardcabinet typed(String text) {
-        Cardcabinet x = new Cardcabinet();
+    private static Counted typed(String text) {
+        Counted x = new Counted();
         type(x, text);
         return x;
     }
@@ -82,69 +82,73 @@ public final class PromiseTest {
         return typed(text).fault();
     }
 
-    private static int lay(Cardcabinet x, int row, String text) {
+    private static int lay(Counted x, int row, String text) {
         x.clearText();
         type(x, text);
         return x.lay(row);
     }
 
     /** A cabinet with cards of these first numbers in row 0; their second numbers are their places. */
-    private static Cardcabinet withFirsts(int... firsts) {
-        Cardcabinet x = new Cardcabinet();
+    private static Counted withFirsts(int... firsts) {
+        Counted x = new Counted();
         putAll(x, 0, firsts);
         return x;
     }
 
-    private static void putAll(Cardcabinet x, int row, int... firsts) {
+    private static void putAll(Counted x, int row, int... firsts) {
         for (int first : firsts) {
             int n = x.count(row);
             x.put(row, n, first, n);
         }
     }
 
-    private static Cardcabinet withBoth(int[]... cards) {
-        Cardcabinet x = new Cardcabinet();
+    private static Counted withBoth(int[]... cards) {
+        Counted x = new Counted();
         for (int[] card : cards) {
             x.put(0, x.count(0), card[0], card[1]);
         }
         return x;
     }
 
-    private static String told(Cardcabinet x, int row, int what) {
-        int[] all = new int[x.count(row)];
+    private static String told(Counted x, int row, int what) {
+        int[] all = new int[(int) x.look(c -> c.count(row))];
         for (int p = 0; p < all.length; p++) {
-            all[p] = x.cardAt(row, p, what);
+            int place = p;
+            all[p] = (int) x.look(c -> c.cardAt(row, place, what));
         }
         return Arrays.toString(all);
     }
 
-    private static String firsts(Cardcabinet x, int row) {
+    private static String firsts(Counted x, int row) {
         return told(x, row, 0);
     }
 
-    private static String seconds(Cardcabinet x, int row) {
+    private static String seconds(Counted x, int row) {
         return told(x, row, 1);
     }
 
-    private static String marks(Cardcabinet x, int row) {
+    private static String marks(Counted x, int row) {
         return told(x, row, 2);
     }
 
-    /** All that can be seen without a change; rows that are kept are looked at where they are tested. */
-    private static String state(Cardcabinet x) {
+    /** All that can be seen, on other cabinets with the same calls behind them. */
+    private static String state(Counted x) {
         StringBuilder text = new StringBuilder();
-        int seed = x.setSeed(0);
-        x.setSeed(seed);
-        text.append(x.type(0)).append(' ').append(x.fault()).append(' ').append(seed);
         for (int row = 0; row < 4; row++) {
-            text.append('\n').append(firsts(x, row)).append(seconds(x, row)).append(marks(x, row));
+            text.append(firsts(x, row)).append(seconds(x, row)).append(marks(x, row)).append('\n');
+        }
+        Counted y = x.again(x.callsMade());
+        text.append(y.type(0)).append(' ').append(y.fault()).append(' ').append(y.setSeed(0));
+        for (int r = 0; r < 4; r++) {
+            int row = r;
+            text.append('\n').append(y.outcome(c -> c.restore(row))).append(' ').append(y.sum(row));
         }
         return text.toString();
     }
 
     /** A cabinet of which 20000 cards have been made; the rows 0 and 1 have some, 2 and 3 none. */
-    private static Cardcabinet exhausted(int lessBy) {
-        Cardcabinet x = new Cardcabinet();
+    private static Counted exhausted(int lessBy) {
+        Counted x = new Counted();
         type(x, "same 400 1;same 400 2;");
         for (int n = 0; n < 24; n++) {
             x.lay(0);
@@ -164,7 +168,7 @@ public final class PromiseTest {
     // ---- the terms
 
     private static void termDraws() {
-        Cardcabinet x = typed("draw 5 10 99 mod 3;");
+        Counted x = typed("draw 5 10 99 mod 3;");
         x.lay(0);
         int seed = 1;
         int[] due = new int[5];
@@ -192,7 +196,7 @@ public final class PromiseTest {
     }
 
     private static void termRuns() {
-        Cardcabinet x = typed("same 3 7;rise 4 -5 10;fall 4 5 10;wave 5 2 3;teeth 7 100 10 3;");
+        Counted x = typed("same 3 7;rise 4 -5 10;fall 4 5 10;wave 5 2 3;teeth 7 100 10 3;");
         due(x.lay(0), 23);
         due(firsts(x, 0), "[7, 7, 7, -5, 5, 15, 25, 5, -5, -15, -25, 2, 5, 2, 5, 2, "
                 + "100, 110, 120, 100, 110, 120, 100]");
@@ -211,7 +215,7 @@ public final class PromiseTest {
     // ---- the promises
 
     private static void promise01() {
-        Cardcabinet x = new Cardcabinet();
+        Counted x = new Counted();
         due(Cardcabinet.NONE, -1);
         for (int row = 0; row < 4; row++) {
             int r = row;
@@ -225,7 +229,7 @@ public final class PromiseTest {
     }
 
     private static void promise02() {
-        Cardcabinet x = new Cardcabinet();
+        Counted x = new Counted();
         due(x.type(0), 0);
         due(x.type(0x61), 1);
         due(x.type(0x6100000000000062L), 3);
@@ -233,12 +237,12 @@ public final class PromiseTest {
         due(x.type(-1), 14);
         due(x.type(Long.MIN_VALUE), 15);
         due(x.type(256), 16);
-        Cardcabinet y = new Cardcabinet();
+        Counted y = new Counted();
         due(y.type(0x73616d6500200031L), 6);
         due(y.type(0x2037003b00000000L), 9);
         due(y.lay(0), 1);
         due(firsts(y, 0), "[7]");
-        Cardcabinet z = new Cardcabinet();
+        Counted z = new Counted();
         for (int n = 1; n <= 49; n++) {
             due(z.type(0x2020202020202020L), 8 * n);
         }
@@ -252,14 +256,14 @@ public final class PromiseTest {
         due(z.clearText(), 400);
         due(z.type(-1), 8);
         // The highest byte first, and none of it left behind by the one that was refused.
-        Cardcabinet v = typed(" ".repeat(390) + "same 1 5");
+        Counted v = typed(" ".repeat(390) + "same 1 5");
         dueThrow(v, STATE, () -> v.type(0x3b20203bL));
         due(v.type(0x3b20), 400);
         due(v.lay(0), 1);
     }
 
     private static void promise03() {
-        Cardcabinet x = new Cardcabinet();
+        Counted x = new Counted();
         due(x.clearText(), 0);
         due(type(x, "same 3 4;"), 9);
         due(x.clearText(), 9);
@@ -312,7 +316,7 @@ public final class PromiseTest {
             due(faultOf("same 1 1;" + word + " ?"), word.length() > 5 || word.length() < 4 ? 9 : 10 + word.length());
         }
         // A fault changes nothing, and an old one is not told of a new text.
-        Cardcabinet x = typed("same 1 1; nothing");
+        Counted x = typed("same 1 1; nothing");
         String before = state(x);
         due(x.fault(), 10);
         due(x.fault(), 10);
@@ -323,7 +327,7 @@ public final class PromiseTest {
     }
 
     private static void promise05() {
-        Cardcabinet x = typed("same 2 5;rise 3 1 2 mod 2;");
+        Counted x = typed("same 2 5;rise 3 1 2 mod 2;");
         due(x.lay(1), 5);
         due(firsts(x, 1), "[5, 5, 1, 3, 5]");
         due(marks(x, 1), "[0, 1, 2, 3, 4]");
@@ -348,7 +352,7 @@ public final class PromiseTest {
     }
 
     private static void promise05Full() {
-        Cardcabinet x = typed("draw 400 0 5;");
+        Counted x = typed("draw 400 0 5;");
         x.lay(0);
         x.lay(0);
         due(x.count(0), 800);
@@ -360,12 +364,12 @@ public final class PromiseTest {
         due(x.lay(2), 401);
         x.clearText();
         due(x.lay(0), 0);
-        Cardcabinet y = exhausted(1);
+        Counted y = exhausted(1);
         due(lay(y, 2, "draw 1 1 1;"), 1);
         dueThrow(y, STATE, () -> y.lay(2));
         y.clearText();
         due(y.lay(2), 0);
-        Cardcabinet z = exhausted(2);
+        Counted z = exhausted(2);
         type(z, "draw 3 1 1;");
         dueThrow(z, STATE, () -> z.lay(2));
         due(lay(z, 2, "draw 2 1 1;"), 2);
@@ -373,7 +377,7 @@ public final class PromiseTest {
     }
 
     private static void promise06() {
-        Cardcabinet x = new Cardcabinet();
+        Counted x = new Counted();
         due(x.put(2, 0, 5, -6), 0);
         due(x.put(2, 0, Integer.MIN_VALUE, Integer.MAX_VALUE), 1);
         due(x.put(2, 1, Integer.MAX_VALUE, Integer.MIN_VALUE), 2);
@@ -397,7 +401,7 @@ public final class PromiseTest {
         dueThrow(x, BOUNDS, () -> x.put(1, 801, 7, 7));
         dueThrow(x, BOUNDS, () -> x.put(1, -1, 7, 7));
         due(x.put(3, 0, 7, 7), 805);
-        Cardcabinet y = exhausted(1);
+        Counted y = exhausted(1);
         due(y.put(3, 0, 1, 1), 19999);
         dueThrow(y, STATE, () -> y.put(3, 0, 1, 1));
         dueThrow(y, BOUNDS, () -> y.put(3, 2, 1, 1));
@@ -405,7 +409,7 @@ public final class PromiseTest {
     }
 
     private static void promise07() {
-        Cardcabinet x = new Cardcabinet();
+        Counted x = new Counted();
         due(x.setSeed(Integer.MIN_VALUE), 1);
         due(x.setSeed(Integer.MAX_VALUE), Integer.MIN_VALUE);
         due(x.setSeed(0), Integer.MAX_VALUE);
@@ -418,26 +422,26 @@ public final class PromiseTest {
     }
 
     private static void promise08() {
-        Cardcabinet x = withFirsts(5, 3, 5, 1, 3, 9);
+        Counted x = withFirsts(5, 3, 5, 1, 3, 9);
         due(x.sort(0), 4);
         due(firsts(x, 0), "[1, 3, 3, 5, 5, 9]");
         due(marks(x, 0), "[3, 1, 4, 0, 2, 5]");
         due(x.sort(0), 0);
         due(x.sort(1), 0);
-        Cardcabinet y = withFirsts(Integer.MAX_VALUE, 0, Integer.MIN_VALUE, -1, 1);
+        Counted y = withFirsts(Integer.MAX_VALUE, 0, Integer.MIN_VALUE, -1, 1);
         due(y.sort(0), 5);
         due(firsts(y, 0), "[-2147483648, -1, 0, 1, 2147483647]");
         // A place that has the same card again is not counted, one with a like card is.
-        Cardcabinet z = withFirsts(2, 1, 1);
+        Counted z = withFirsts(2, 1, 1);
         due(z.sort(0), 3);
         due(marks(z, 0), "[1, 2, 0]");
-        Cardcabinet v = withFirsts(3, 2, 1);
+        Counted v = withFirsts(3, 2, 1);
         due(v.sort(0), 2);
         dueNoRow(v, row -> v.sort(row));
     }
 
     private static void promise08Twice() {
-        Cardcabinet x = withFirsts(2, 1);
+        Counted x = withFirsts(2, 1);
         x.keep(0);
         x.pour(0, 1);
         x.restore(0);
@@ -445,7 +449,7 @@ public final class PromiseTest {
         due(marks(x, 1), "[0, 1, 0, 1]");
         due(x.sort(1), 2);
         due(marks(x, 1), "[1, 1, 0, 0]");
-        Cardcabinet big = typed("fall 400 9999 1;fall 400 9999 1;");
+        Counted big = typed("fall 400 9999 1;fall 400 9999 1;");
         big.lay(0);
         due(big.sort(0), 798);
         due(big.cardAt(0, 0, 2), 399);
@@ -454,7 +458,7 @@ public final class PromiseTest {
     }
 
     private static void promise09() {
-        Cardcabinet x = new Cardcabinet();
+        Counted x = new Counted();
         due(x.sortAll(), 0);
         putAll(x, 0, 5, 1);
         putAll(x, 2, 1, 5, 0);
@@ -465,7 +469,7 @@ public final class PromiseTest {
         due(marks(x, 2), "[2, 0, 3]");
         due(marks(x, 3), "[5]");
         due(x.sortAll(), 0);
-        Cardcabinet full = typed("fall 400 9999 1;fall 400 9599 1;");
+        Counted full = typed("fall 400 9999 1;fall 400 9599 1;");
         for (int row = 0; row < 4; row++) {
             full.lay(row);
         }
@@ -480,7 +484,7 @@ public final class PromiseTest {
     }
 
     private static void promise10() {
-        Cardcabinet x = withFirsts(9, 5, 3, 5, 1, 0);
+        Counted x = withFirsts(9, 5, 3, 5, 1, 0);
         due(x.sortPart(0, 1, 5), 3);
         due(firsts(x, 0), "[9, 1, 3, 5, 5, 0]");
         due(marks(x, 0), "[0, 4, 2, 1, 3, 5]");
@@ -491,7 +495,7 @@ public final class PromiseTest {
         due(x.sortPart(0, 0, 6), 3);
         due(firsts(x, 0), "[0, 1, 3, 5, 5, 9]");
         due(x.sortPart(1, 0, 0), 0);
-        Cardcabinet y = withFirsts(9, 5, 3, 5, 1, 0);
+        Counted y = withFirsts(9, 5, 3, 5, 1, 0);
         partErrors(y, (row, from, to) -> y.sortPart(row, from, to));
     }
 
@@ -499,7 +503,7 @@ public final class PromiseTest {
         int answer(int row, int from, int to);
     }
 
-    private static void partErrors(Cardcabinet x, PartCall call) {
+    private static void partErrors(Counted x, PartCall call) {
         dueNoRow(x, row -> call.answer(row, 0, 0));
         dueNoRow(x, row -> call.answer(row, 2, 1));
         dueThrow(x, BOUNDS, () -> call.answer(0, -1, 3));
@@ -518,7 +522,7 @@ public final class PromiseTest {
     }
 
     private static void promise11() {
-        Cardcabinet x = withFirsts(9, 1, 3, 5, 3, 10);
+        Counted x = withFirsts(9, 1, 3, 5, 3, 10);
         due(x.sortDown(0, 1, 5), 3);
         due(firsts(x, 0), "[9, 5, 3, 3, 1, 10]");
         due(marks(x, 0), "[0, 3, 2, 4, 1, 5]");
@@ -526,9 +530,9 @@ public final class PromiseTest {
         due(x.sortDown(0, 6, 6), 0);
         due(x.sortDown(0, 0, 6), 6);
         due(firsts(x, 0), "[10, 9, 5, 3, 3, 1]");
-        Cardcabinet y = withFirsts(9, 5, 3, 5, 1, 0);
+        Counted y = withFirsts(9, 5, 3, 5, 1, 0);
         partErrors(y, (row, from, to) -> y.sortDown(row, from, to));
-        Cardcabinet z = typed("rise 33 0 1;");
+        Counted z = typed("rise 33 0 1;");
         z.lay(0);
         due(z.sortDown(0, 0, 31), 30);
         due(z.cardAt(0, 0, 0), 30);
@@ -536,13 +540,13 @@ public final class PromiseTest {
         dueThrow(z, ARGUMENT, () -> z.sortDown(0, 0, 32));
         dueThrow(z, ARGUMENT, () -> z.sortDown(0, 1, 33));
         dueThrow(z, BOUNDS, () -> z.sortDown(0, 0, 34));
-        Cardcabinet v = withFirsts(Integer.MIN_VALUE, 0, Integer.MAX_VALUE);
+        Counted v = withFirsts(Integer.MIN_VALUE, 0, Integer.MAX_VALUE);
         due(v.sortDown(0, 0, 3), 2);
         due(firsts(v, 0), "[2147483647, 0, -2147483648]");
     }
 
     private static void promise12() {
-        Cardcabinet x = withBoth(new int[][] {{1, 5}, {9, 2}, {3, 5}, {2, 2}, {0, Integer.MIN_VALUE}, {7, Integer.MAX_VALUE}});
+        Counted x = withBoth(new int[][] {{1, 5}, {9, 2}, {3, 5}, {2, 2}, {0, Integer.MIN_VALUE}, {7, Integer.MAX_VALUE}});
         due(x.sortBySecond(0), 4);
         due(seconds(x, 0), "[-2147483648, 2, 2, 5, 5, 2147483647]");
         due(marks(x, 0), "[4, 1, 3, 0, 2, 5]");
@@ -552,7 +556,7 @@ public final class PromiseTest {
     }
 
     private static void promise13() {
-        Cardcabinet x = withBoth(new int[][] {{3, 5}, {1, 2}, {3, 4}, {1, 2}, {3, 5}, {1, -1}, {2, 9}});
+        Counted x = withBoth(new int[][] {{3, 5}, {1, 2}, {3, 4}, {1, 2}, {3, 5}, {1, -1}, {2, 9}});
         due(x.sortByBoth(0), 6);
         due(marks(x, 0), "[5, 1, 3, 6, 2, 0, 4]");
         due(x.sortByBoth(0), 0);
@@ -561,7 +565,7 @@ public final class PromiseTest {
     }
 
     private static void promise14() {
-        Cardcabinet x = withFirsts(5, 4, 3);
+        Counted x = withFirsts(5, 4, 3);
         putAll(x, 2, 8, 9);
         due(x.pour(0, 2), 5);
         due(marks(x, 0), "[]");
@@ -585,7 +589,7 @@ public final class PromiseTest {
     }
 
     private static void promise15() {
-        Cardcabinet x = withFirsts(10, 11, 12, 13, 14);
+        Counted x = withFirsts(10, 11, 12, 13, 14);
         putAll(x, 1, 8);
         due(x.deal(0, 1), 2);
         due(marks(x, 0), "[0, 2, 4]");
@@ -601,7 +605,7 @@ public final class PromiseTest {
         dueNoRow(x, row -> x.deal(0, row));
         dueNoRow(x, row -> x.deal(row, row));
         dueThrow(x, ARGUMENT, () -> x.deal(1, 1));
-        Cardcabinet y = typed("same 400 1;same 400 2;");
+        Counted y = typed("same 400 1;same 400 2;");
         y.lay(0);
         lay(y, 1, "same 400 1;");
         due(y.deal(0, 1), 400);
@@ -620,7 +624,7 @@ public final class PromiseTest {
     }
 
     private static void promise15Edge() {
-        Cardcabinet x = typed("same 400 1;same 399 2;");
+        Counted x = typed("same 400 1;same 399 2;");
         x.lay(0);
         lay(x, 1, "same 3 7;");
         // Of three cards one goes: 799 and one are 800.
@@ -634,7 +638,7 @@ public final class PromiseTest {
     }
 
     private static void promise16() {
-        Cardcabinet x = withFirsts(1, 2, 3, 4);
+        Counted x = withFirsts(1, 2, 3, 4);
         due(x.turn(0), 4);
         due(marks(x, 0), "[3, 2, 1, 0]");
         x.put(0, 4, 9, 9);
@@ -648,7 +652,7 @@ public final class PromiseTest {
     }
 
     private static void promise17() {
-        Cardcabinet x = withFirsts(0, 1, 2, 3, 4);
+        Counted x = withFirsts(0, 1, 2, 3, 4);
         due(x.move(0, 1, 3), 1);
         due(marks(x, 0), "[0, 2, 3, 1, 4]");
         due(x.move(0, 3, 1), 1);
@@ -664,7 +668,7 @@ public final class PromiseTest {
             dueThrow(x, BOUNDS, () -> x.move(0, 0, place));
         }
         dueThrow(x, BOUNDS, () -> x.move(1, 0, 0));
-        Cardcabinet full = typed("rise 400 0 1;rise 400 400 1;");
+        Counted full = typed("rise 400 0 1;rise 400 400 1;");
         full.lay(0);
         due(full.move(0, 0, 799), 0);
         due(full.cardAt(0, 799, 0), 0);
@@ -674,7 +678,7 @@ public final class PromiseTest {
     }
 
     private static void promise18() {
-        Cardcabinet x = withBoth(new int[][] {{1, 5}, {5, 2}, {3, 5}, {4, -2}, {5, 5}});
+        Counted x = withBoth(new int[][] {{1, 5}, {5, 2}, {3, 5}, {4, -2}, {5, 5}});
         due(x.thin(0, 3), 0);
         due(x.thin(0, 5), 3);
         due(marks(x, 0), "[1, 3]");
@@ -690,19 +694,19 @@ public final class PromiseTest {
     }
 
     private static void promise19() {
-        Cardcabinet x = withFirsts(5, 5, 5, 3, 5, 5, 3, 3);
+        Counted x = withFirsts(5, 5, 5, 3, 5, 5, 3, 3);
         due(x.single(0), 4);
         due(marks(x, 0), "[0, 3, 4, 6]");
         due(x.single(0), 0);
         due(x.single(1), 0);
-        Cardcabinet y = withFirsts(0, 0);
+        Counted y = withFirsts(0, 0);
         due(y.single(0), 1);
         due(marks(y, 0), "[0]");
         dueNoRow(y, row -> y.single(row));
     }
 
     private static void promise20() {
-        Cardcabinet x = withFirsts(5, 5, 5);
+        Counted x = withFirsts(5, 5, 5);
         putAll(x, 1, 4);
         due(x.empty(0), 3);
         due(x.empty(0), 0);
@@ -712,7 +716,7 @@ public final class PromiseTest {
     }
 
     private static void promise21And22() {
-        Cardcabinet x = withFirsts(3, 2, 1);
+        Counted x = withFirsts(3, 2, 1);
         due(x.keep(0), 3);
         dueThrow(x, STATE, () -> x.restore(1));
         due(x.restore(0), 0);
@@ -744,7 +748,7 @@ public final class PromiseTest {
     }
 
     private static void promise22Copies() {
-        Cardcabinet x = withFirsts(2, 1);
+        Counted x = withFirsts(2, 1);
         x.keep(0);
         x.pour(0, 1);
         due(x.restore(0), 2);
@@ -760,7 +764,7 @@ public final class PromiseTest {
         x.errors();
         due(x.restore(0), 3);
         due(marks(x, 0), "[0, 1]");
-        Cardcabinet full = typed("fall 400 800 1;fall 400 400 1;");
+        Counted full = typed("fall 400 800 1;fall 400 400 1;");
         full.lay(0);
         due(full.keep(0), 800);
         full.sort(0);
@@ -769,7 +773,7 @@ public final class PromiseTest {
     }
 
     private static void promise23And24() {
-        Cardcabinet x = withBoth(new int[][] {{7, -8}, {Integer.MIN_VALUE, Integer.MAX_VALUE}});
+        Counted x = withBoth(new int[][] {{7, -8}, {Integer.MIN_VALUE, Integer.MAX_VALUE}});
         due(x.count(0), 2);
         due(x.count(3), 0);
         due(x.cardAt(0, 0, 0), 7);
@@ -792,7 +796,7 @@ public final class PromiseTest {
     }
 
     private static void promise25() {
-        Cardcabinet x = withFirsts(9, 8, 7);
+        Counted x = withFirsts(9, 8, 7);
         putAll(x, 1, 5);
         x.turn(0);
         due(x.placeOf(0, 0), 2);
@@ -817,7 +821,7 @@ public final class PromiseTest {
     }
 
     private static void promise26() {
-        Cardcabinet x = withFirsts(1, 3, 3, 3, 7);
+        Counted x = withFirsts(1, 3, 3, 3, 7);
         due(x.placeFor(0, 0), 0);
         due(x.placeFor(0, 1), 1);
         due(x.placeFor(0, 2), 1);
@@ -830,14 +834,14 @@ public final class PromiseTest {
         x.move(0, 4, 0);
         dueThrow(x, STATE, () -> x.placeFor(0, 3));
         dueNoRow(x, row -> x.placeFor(row, 3));
-        Cardcabinet y = withFirsts(Integer.MIN_VALUE, Integer.MAX_VALUE);
+        Counted y = withFirsts(Integer.MIN_VALUE, Integer.MAX_VALUE);
         due(y.placeFor(0, Integer.MIN_VALUE), 1);
         due(y.placeFor(0, Integer.MAX_VALUE), 2);
         due(y.placeFor(0, 0), 1);
     }
 
     private static void dueStretches(boolean isSorted, int runs, int longest, float share, int... firsts) {
-        Cardcabinet x = withFirsts(firsts);
+        Counted x = withFirsts(firsts);
         due(x.isSorted(0), isSorted);
         due(x.runs(0), runs);
         due(x.longestRun(0), longest);
@@ -854,7 +858,7 @@ public final class PromiseTest {
         dueStretches(false, 2, 4, 4.0f / 6.0f, 8, 9, 3, 4, 4, 5);
         dueStretches(false, 3, 3, 3.0f / 7.0f, 1, 0, 3, 5, 4, 4, 4);
         dueStretches(false, 2, 2, 2.0f / 3.0f, 1, 2, 1);
-        Cardcabinet x = withFirsts(2, 1);
+        Counted x = withFirsts(2, 1);
         dueNoRow(x, row -> x.isSorted(row));
         dueNoRow(x, row -> x.runs(row));
         dueNoRow(x, row -> x.longestRun(row));
@@ -868,7 +872,7 @@ public final class PromiseTest {
         due(withFirsts(2, 1).wrongPairs(0), 1);
         due(withFirsts(3, 1, 2, 2, 0).wrongPairs(0), 7);
         due(withFirsts(Integer.MAX_VALUE, Integer.MIN_VALUE, 0).wrongPairs(0), 2);
-        Cardcabinet x = typed("fall 400 9999 1;fall 400 9599 1;");
+        Counted x = typed("fall 400 9999 1;fall 400 9599 1;");
         x.lay(2);
         due(x.wrongPairs(2), 800 * 799 / 2);
         String before = state(x);
@@ -883,7 +887,7 @@ public final class PromiseTest {
         due(withFirsts(4, 4).unlike(0), 1);
         due(withFirsts(4, 3, 4, 0, 3, -4).unlike(0), 4);
         due(withFirsts(Integer.MAX_VALUE, Integer.MIN_VALUE, Integer.MAX_VALUE).unlike(0), 2);
-        Cardcabinet x = typed("rise 400 1 1;rise 400 201 1;");
+        Counted x = typed("rise 400 1 1;rise 400 201 1;");
         x.lay(3);
         due(x.unlike(3), 600);
         String before = state(x);
@@ -893,14 +897,14 @@ public final class PromiseTest {
     }
 
     private static void promise32() {
-        Cardcabinet x = withFirsts(9, 9, 9);
+        Counted x = withFirsts(9, 9, 9);
         due(x.sum(0), 14L);
         due(x.sum(1), 0L);
         x.turn(0);
         due(x.sum(0), 10L);
         dueNoRow(x, row -> x.sum(row));
         // 800 places with the latest marks: more than an int.
-        Cardcabinet y = exhausted(10);
+        Counted y = exhausted(10);
         y.empty(1);
         y.empty(0);
         lay(y, 1, "same 10 1;");
@@ -919,7 +923,7 @@ public final class PromiseTest {
     }
 
     private static int compared(int[] one, int[] two) {
-        Cardcabinet x = new Cardcabinet();
+        Counted x = new Counted();
         putAll(x, 1, one);
         putAll(x, 2, two);
         due(x.compare(1, 1), 0);
@@ -937,7 +941,7 @@ public final class PromiseTest {
         due(compared(new int[] {0, 9, 9}, new int[] {1}), -1);
         due(compared(new int[] {Integer.MIN_VALUE}, new int[] {Integer.MAX_VALUE}), -1);
         due(compared(new int[] {1, 5, 0}, new int[] {1, 4, 9}), 1);
-        Cardcabinet x = withBoth(new int[][] {{1, 1}});
+        Counted x = withBoth(new int[][] {{1, 1}});
         x.put(1, 0, 1, 2);
         due(x.compare(0, 1), 0);
         dueNoRow(x, row -> x.compare(row, 0));
@@ -952,7 +956,7 @@ public final class PromiseTest {
         due(withFirsts(9, 4, 7, 8).middle(0), 7);
         due(withFirsts(1, 1, 0, 1, 5).middle(0), 1);
         due(withFirsts(Integer.MAX_VALUE, Integer.MIN_VALUE, -1).middle(0), -1);
-        Cardcabinet x = withFirsts(5, 4, 3);
+        Counted x = withFirsts(5, 4, 3);
         String before = state(x);
         due(x.middle(0), 4);
         due(state(x), before);
@@ -969,12 +973,12 @@ public final class PromiseTest {
         due(withFirsts(Integer.MIN_VALUE, Integer.MIN_VALUE).mean(0), -2147483648.0);
         due(withFirsts(1, 1, 0).mean(0), 2.0 / 3.0);
         due(withFirsts(0).mean(0), 0.0);
-        Cardcabinet x = withFirsts(2, 1);
+        Counted x = withFirsts(2, 1);
         dueNoRow(x, row -> x.mean(row));
     }
 
     private static void promise37() {
-        Cardcabinet x = new Cardcabinet();
+        Counted x = new Counted();
         due(x.errors(), 0);
         type(x, "draw 400 -20 40 mod 7;draw 400 0 5 mod 3;");
         for (int row = 0; row < 4; row++) {
@@ -987,7 +991,7 @@ public final class PromiseTest {
         for (int row = 0; row < 4; row++) {
             due(x.restore(row), 0);
         }
-        Cardcabinet y = withBoth(new int[][] {{Integer.MAX_VALUE, Integer.MIN_VALUE}, {Integer.MIN_VALUE, Integer.MAX_VALUE}});
+        Counted y = withBoth(new int[][] {{Integer.MAX_VALUE, Integer.MIN_VALUE}, {Integer.MIN_VALUE, Integer.MAX_VALUE}});
         y.keep(0);
         y.pour(0, 1);
         y.restore(0);
@@ -997,7 +1001,7 @@ public final class PromiseTest {
 
     /** Answers that are found by sorting don't depend on what was sorted before. */
     private static void promise30And31And34InTurn() {
-        Cardcabinet x = withFirsts(9, 1, 5, 5);
+        Counted x = withFirsts(9, 1, 5, 5);
         putAll(x, 1, 7, 3);
         putAll(x, 2, 4, 4, 4);
         for (int n = 0; n < 2; n++) {

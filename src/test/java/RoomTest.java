@@ -4,11 +4,11 @@ import java.lang.management.ManagementFactory;
 public final class RoomTest {
     // A tenth of the elements of the room, at four bytes each.
     private static final long MOST_BYTES = 730000L * 4;
-    private static final int CALLS = 512;
+    private static final int KINDS = 15;
+    private static final int MOST_CALLS_AT_ONCE = 5;
 
-    private static Cardcabinet full() {
-        Cardcabinet x = new Cardcabinet();
-        // draw 400 0 999 mod 9;draw 400 0 999;
+    private static Counted full() {
+        Counted x = new Counted();
         String text = "draw 400 0 999 mod 9;draw 400 0 999;";
         for (int p = 0; p < text.length(); p++) {
             x.type(text.charAt(p));
@@ -20,7 +20,7 @@ public final class RoomTest {
         return x;
     }
 
-    private static void call(Cardcabinet x, int n, int kind) {
+    private static void call(Counted x, int n, int kind) {
         int row = n % 4;
         switch (kind) {
             case 0: x.sort(row); break;
@@ -36,6 +36,7 @@ public final class RoomTest {
             case 10: x.sortDown(row, 700, 731); x.sortPart(row, 1, 799); break;
             case 11: x.empty(3); x.deal(row % 3, 3); x.pour(3, row % 3); x.single(0); x.thin(0, 0); break;
             case 12: x.sum(row); x.mean(row); x.risingShare(row); x.runs(row); x.compare(row, 3 - row); break;
+            case 13: x.outcome(c -> c.lay(row)); x.outcome(c -> c.restore(-1)); break;
             default: x.placeOf(row, -7); x.placeOf(row, n); x.clearText(); x.type(0x646177640000L); break;
         }
     }
@@ -43,10 +44,10 @@ public final class RoomTest {
     public static void main(String[] args) {
         com.sun.management.ThreadMXBean thread = (com.sun.management.ThreadMXBean) ManagementFactory.getThreadMXBean();
         int wrong = 0;
-        for (int kind = 0; kind < 14; kind++) {
+        for (int kind = 0; kind < KINDS; kind++) {
             long before = thread.getCurrentThreadAllocatedBytes();
-            Cardcabinet x = full();
-            for (int n = 0; n < CALLS; n++) {
+            Counted x = full();
+            for (int n = 0; x.callsLeft() >= MOST_CALLS_AT_ONCE; n++) {
                 call(x, n, kind);
             }
             long taken = thread.getCurrentThreadAllocatedBytes() - before;

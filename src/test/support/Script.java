@@ -21,8 +21,6 @@ import java.util.regex.Pattern;
  * compared in all that later calls can tell: a call that throws an exception changes nothing.
  */
 final class Script {
-    // What an object answers behind its 512th call is free, so no test may look at it.
-    private static final int MOST_CALLS = 512;
     private static final int ROWS = 4;
     private static final Pattern ITEM =
             Pattern.compile("(\\w+)((?: [-\\w]+)*)(?: \"([^\"]*)\")?(?: =((?: [-.\\w]+)*))?(?:, |,?\\s*$)");
@@ -32,36 +30,8 @@ final class Script {
     private static int refusals = 0;
     private static int wrong = 0;
 
-    private record Step(Method method, Object[] args) {
-    }
-
-    /** A cabinet that sees to it that it isn't called too often. */
-    private static final class Counted {
-        final Cardcabinet cabinet = new Cardcabinet();
-        int calls = 0;
-
-        String answer(Step step) {
-            calls++;
-            if (calls > MOST_CALLS) {
-                throw new AssertionError("a test calls an object more than " + MOST_CALLS + " times");
-            }
-            try {
-                return String.valueOf(step.method().invoke(cabinet, step.args()));
-            } catch (InvocationTargetException e) {
-                return "throws." + e.getCause().getClass().getSimpleName();
-            } catch (IllegalAccessException e) {
-                throw new AssertionError(e);
-            }
-        }
-
-        String answer(String call, Object... args) {
-            return answer(new Step(method(call), args));
-        }
-    }
-
     private final String name;
     private final Counted counted = new Counted();
-    private final List<Step> steps = new ArrayList<>();
     private boolean isWrong = false;
 
     private Script(String name) {
@@ -189,28 +159,19 @@ final class Script {
             return;
         }
         answers++;
-        Step step = new Step(method, args);
-        String got = counted.answer(step);
+        String got = answer(counted, method, args);
         String want = due == null ? null : asAnswered(method.getReturnType(), words(due)[0]);
         if (want == null ? got.startsWith("throws") : !got.equals(want)) {
             tell(told + " answered " + got);
         } else if (got.startsWith("throws")) {
             refusals++;
-            dueUnchanged(told, step);
+            dueUnchanged(told);
         }
-        steps.add(step);
     }
 
-    private void dueUnchanged(String told, Step refused) {
-        Counted without = new Counted();
-        Counted with = new Counted();
-        for (Step step : steps) {
-            without.answer(step);
-            with.answer(step);
-        }
-        with.answer(refused);
-        List<String> due = allThatIsSeen(without);
-        List<String> got = allThatIsSeen(with);
+    private void dueUnchanged(String told) {
+        List<String> due = allThatIsSeen(counted.again(counted.callsMade() - 1));
+        List<String> got = allThatIsSeen(counted.again(counted.callsMade()));
         for (int n = 0; n < due.size() && !isWrong; n++) {
             if (!got.get(n).equals(due.get(n))) {
                 tell(told + " throws, but changes something: then " + got.get(n) + ", without it " + due.get(n));
@@ -227,31 +188,52 @@ final class Script {
     /** Looks at rows, copies of rows, text, seed and the next mark; the cabinet is of no use afterwards. */
     private static List<String> allThatIsSeen(Counted x) {
         List<String> seen = new ArrayList<>();
-        seen.add("a text of " + x.answer("type", 0L) + " bytes, with the fault " + x.answer("fault"));
-        seen.add("the seed " + x.answer("setSeed", 5));
+        seen.add("a text of " + x.type(0) + " bytes, with the fault " + x.fault());
+        seen.add("the seed " + x.setSeed(5));
         for (int row = 0; row < ROWS; row++) {
             seen.add("row " + row + ": " + cards(x, row));
         }
-        for (int row = 0; row < ROWS; row++) {
-            seen.add("row " + row + " restored: " + x.answer("restore", row) + ", " + cards(x, row));
+        for (int r = 0; r < ROWS; r++) {
+            int row = r;
+            seen.add("row " + row + " restored: " + x.outcome(c -> c.restore(row)) + ", " + cards(x, row));
         }
-        x.answer("empty", 1);
-        seen.add("the text laid: " + x.answer("lay", 1) + ", " + cards(x, 1));
-        x.answer("empty", 2);
-        seen.add("the next mark " + x.answer("put", 2, 0, 0, 0));
-        seen.add("a text of " + x.answer("clearText") + " bytes");
+        x.empty(1);
+        seen.add("the text laid: " + x.outcome(c -> c.lay(1)) + ", " + cards(x, 1));
+        x.empty(2);
+        seen.add("the next mark " + x.outcome(c -> c.put(2, 0, 0, 0)));
+        seen.add("a text of " + x.clearText() + " bytes");
         return seen;
     }
 
     private static String cards(Counted x, int row) {
-        StringBuilder told = new StringBuilder(x.answer("count", row) + " cards, " + x.answer("sum", row));
-        told.append(' ').append(x.answer("mean", row)).append(' ').append(x.answer("wrongPairs", row));
-        for (int place = 0; place < 2; place++) {
-            for (int what = 0; what < 2; what++) {
-                told.append(' ').append(x.answer("cardAt", row, place, what));
+        StringBuilder told = new StringBuilder(x.count(row) + " cards, " + x.sum(row));
+        told.append(' ').append(x.mean(row)).append(' ').append(x.wrongPairs(row));
+        for (int p = 0; p < 2; p++) {
+            for (int w = 0; w < 2; w++) {
+                int place = p;
+                int what = w;
+                told.append(' ').append(x.outcome(c -> c.cardAt(row, place, what)));
             }
         }
         return told.toString();
+    }
+
+    private static String answer(Counted x, Method method, Object[] args) {
+        return String.valueOf(x.outcome(c -> invoke(c, method, args)));
+    }
+
+    /** Throws what the call throws. */
+    private static Object invoke(Cardcabinet cabinet, Method method, Object[] args) {
+        try {
+            return method.invoke(cabinet, args);
+        } catch (InvocationTargetException e) {
+            if (e.getCause() instanceof RuntimeException thrown) {
+                throw thrown;
+            }
+            throw new AssertionError(e.getCause());
+        } catch (IllegalAccessException e) {
+            throw new AssertionError(e);
+        }
     }
 
     private static Method method(String call) {

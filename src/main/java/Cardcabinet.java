@@ -606,18 +606,19 @@ public final class Cardcabinet {
         /** Lays cards from a place of the table on into a part of a row, and tells how many places have another one. */
         int layBack(int start, Row row, int from, int to) {
             int changed = 0;
-            for (int p = from; p < to; p++) {
-                int mark = marks[start + p - from];
-                if (row.marks[p] != mark) {
+            int next = start;
+            for (int p = from; p < to && next < size; p++) {
+                if (row.marks[p] != marks[next]) {
                     changed++;
-                    row.marks[p] = mark;
+                    row.marks[p] = marks[next];
                 }
+                next++;
             }
             return changed;
         }
 
         int firstAt(int place) {
-            return deck.firstOf(marks[place]);
+            return place >= 0 && place < size ? deck.firstOf(marks[place]) : 0;
         }
 
         /** Sorts all cards of the table, and tells how many pairs of them were the wrong way round. */
